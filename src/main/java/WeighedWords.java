@@ -545,7 +545,7 @@ public final class WeighedWords {
         int bits = 0;
         for (int person = 0; person < PEOPLE; person++) {
             if (now.hasPerson(person)) {
-                int burden = Math.max(0, now.sum(person, now.known[person]) + besides);
+                int burden = Math.max(0, now.burden(person) + besides);
                 if (now.distance(now.places[person], terrace, now.bearing(burden)) != NONE) {
                     bits |= 1 << person;
                 }

@@ -900,14 +900,26 @@ public final class PromisesTest {
         }
     }
 
-    /** What a PERSON KNOWS and its part are 0 at least together, so that a LIE that it KNOWS lightens the part too. */
+    /** The part comes besides what a PERSON CARRIES, which is 0 at least: LIES that it KNOWS do not lighten the part. */
     private static void halvesBesides() {
         WeighedWords x = row();
         x.news(0, 60, 3);
         due("30 and 30 do not cross to 0", 0, x.two(0, 0, -1));
         x.news(1, -10, 3);
         x.learn(1, 1, true);
-        due("B with a lie does", 1, x.two(0, 0, 0));
+        due("nor does B with a lie", 0, x.two(0, 0, -1));
+        x.news(0, 40, 3);
+        due("20 and 20 do", 1, x.two(0, 0, -1));
+        x.news(2, 10, 3);
+        x.learn(1, 2, true);
+        due("B carries 0", 0, x.carries(1));
+        due("so does B, that carries 0", 1, x.two(0, 0, -1));
+        x.news(1, -9, 3);
+        due("but not with 1", 0, x.two(0, 0, -1));
+        x.news(0, 39, 0);
+        due("19 and 20 are no more for A's kin, and 20 and 1 do not cross", 0, x.two(0, 0, -1));
+        live(x, "!a");
+        due("halves of what is published weigh what it weighs", 0, x.two(0, 0, -1));
     }
 
     private static void promise27() {
