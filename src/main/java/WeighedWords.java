@@ -17,8 +17,8 @@ public final class WeighedWords {
     private final Town now;
     /** What only might be is tried here, so that no call needs a town of its own. */
     private final Town trial;
+    /** What was kept; null, where nothing was. */
     private final Town[] images;
-    private final boolean[] kept;
     private final Pad pad;
     private final Day day;
     private final Orders orders;
@@ -27,10 +27,6 @@ public final class WeighedWords {
         now = new Town();
         trial = new Town();
         images = new Town[IMAGES];
-        for (int n = 0; n < IMAGES; n++) {
-            images[n] = new Town();
-        }
-        kept = new boolean[IMAGES];
         pad = new Pad();
         day = new Day();
         orders = new Orders();
@@ -227,11 +223,8 @@ public final class WeighedWords {
             return UNKNOWN;
         }
         int open = now.bearing(now.burden(person));
-        int length = now.distance(now.places[person], terrace, open);
-        if (i == -1 || !within(i, 0, length - 1)) {
-            return i == -1 ? length : NONE;
-        }
-        return now.bridgeOfWay(now.places[person], terrace, open, i);
+        int from = now.places[person];
+        return i == -1 ? now.distance(from, terrace, open) : now.bridgeOfWay(from, terrace, open, i);
     }
 
     public int left(int person, int terrace, int what) {
@@ -435,8 +428,10 @@ public final class WeighedWords {
         if (!within(n, 0, IMAGES - 1)) {
             return OUTSIDE;
         }
+        if (images[n] == null) {
+            images[n] = new Town();
+        }
         images[n].copy(now);
-        kept[n] = true;
         return 1;
     }
 
@@ -444,7 +439,7 @@ public final class WeighedWords {
         if (!within(n, 0, IMAGES - 1)) {
             return OUTSIDE;
         }
-        if (!kept[n]) {
+        if (images[n] == null) {
             return STATE;
         }
         now.copy(images[n]);
@@ -510,7 +505,7 @@ public final class WeighedWords {
         return bits == NONE || what == 1 ? bits : Integer.bitCount(bits);
     }
 
-    /** Of the NEWS to choose from the fewest, then least as bits, that make a WAY if the PERSON's KNOWING them turns. */
+    /** Of the NEWS to choose from the fewest, then least as bits, that make a WAY if KNOWING them turns about. */
     private int fewest(int person, int terrace, int choice) {
         int best = NONE;
         for (int bits = 0; bits < 1 << NEWS; bits++) {
@@ -612,7 +607,10 @@ public final class WeighedWords {
         return one;
     }
 
-    /** Writes into work.order, from depth on, the first order in which the rest can go; the town is left as it was, if there is none. */
+    /**
+     * Writes into work.order, from depth on, the first order in which the rest can go. If there is none, the town is
+     * left as it was.
+     */
     private static boolean findOrder(Orders work, Town town, int rest, int depth) {
         if (rest == 0 || depth >= PEOPLE) {
             return rest == 0;

@@ -730,6 +730,15 @@ public final class PromisesTest {
         due("where it is", 0, trip.of(x, 0, 0, 0));
         refusedTrips(x, trip);
         due("nothing is told in fact", 9, x.told(1002));
+        x.terraces(2);
+        x.bridge(0, 0, 1, 5);
+        x.person(0, 0, 0);
+        x.news(0, -2, 3);
+        x.news(1, 7, 3);
+        x.learn(0, 1, true);
+        due("a is the lie", 1, trip.of(x, 0, 1, 1));
+        x.news(0, 0, 3);
+        due("what weighs 0 is no lie, and would not help", WeighedWords.NONE, trip.of(x, 0, 1, 1));
     }
 
     private static void promise23() {
@@ -799,6 +808,32 @@ public final class PromisesTest {
         due("D is told, and 1 by 2 is 0 for both: all", 15, x.rumour(0));
         x.news(0, 2, 3);
         due("2 by 2 is 1", 12, x.rumour(0));
+        x = row();
+        x.learn(1, 0, true);
+        x.bridge(1, 1, 2, 0);
+        x.fall(2);
+        due("B tells A, who is the only one", 3, x.rumour(0));
+        sixRounds();
+    }
+
+    /** Six in a row of TERRACES: in each round NEWS of 60 grows light enough for one BRIDGE more. */
+    private static void sixRounds() {
+        WeighedWords x = new WeighedWords();
+        x.terraces(6);
+        int[] loads = {60, 30, 20, 15, 12};
+        for (int person = 0; person < 6; person++) {
+            x.person(person, person, 0);
+        }
+        for (int bridge = 0; bridge < 5; bridge++) {
+            x.bridge(bridge, bridge, bridge + 1, loads[bridge]);
+        }
+        x.news(7, 60, 3);
+        x.learn(0, 7, true);
+        due("all in the end", 63, x.rumour(7));
+        x.bridge(4, 4, 5, 11);
+        due("all but the last", 31, x.rumour(7));
+        x.bridge(1, 1, 2, 29);
+        due("stuck on 1", 3, x.rumour(7));
     }
 
     private static void promise25() {
@@ -828,7 +863,31 @@ public final class PromisesTest {
         due("A stays and tells D: both by two, 12", 0, x.errands(9, 1, 0));
         due("then D", 3, x.errands(9, 1, 1));
         due("D stays, told nothing; A can not", WeighedWords.NONE, x.errands(9, 10, 0));
+        turnedBack();
         refusedErrands();
+    }
+
+    /** Orders that are given up on leave nothing behind: neither where somebody came to nor what it told. */
+    private static void turnedBack() {
+        WeighedWords x = new WeighedWords();
+        x.bridge(0, 0, 1, 5);
+        x.bridge(1, 1, 2, 20);
+        x.person(0, 2, 0);
+        x.person(1, 0, 0);
+        x.person(2, 1, 0);
+        x.news(0, 12, 3);
+        x.learn(0, 0, true);
+        due("A to 1, B to 1, C to 0: A first tells C alone, 6 each, so B first", 1, x.errands(7, 110, 0));
+        due("then A, who tells both, 4 each", 0, x.errands(7, 110, 1));
+        due("then C", 2, x.errands(7, 110, 2));
+        x.bridge(0, 0, 1, 3);
+        due("B first", 1, x.errands(7, 110, 0));
+        due("then C, before A comes", 2, x.errands(7, 110, 1));
+        due("then A", 0, x.errands(7, 110, 2));
+        x.person(3, 3, 0);
+        due("D can never: none", WeighedWords.NONE, x.errands(15, 1100, 0));
+        due("A is where it was", 2, x.told(1000));
+        due("C knows what it knew", 0, x.told(3002));
     }
 
     private static void refusedErrands() {
@@ -916,6 +975,9 @@ public final class PromisesTest {
         due("so does B, that carries 0", 1, x.two(0, 0, -1));
         x.news(1, -9, 3);
         due("but not with 1", 0, x.two(0, 0, -1));
+        x.bridge(0, 0, 1, 0);
+        due("a lie is 0 at least together with 1 or 0", 3, x.two(1, 0, -1));
+        x.bridge(0, 0, 1, 20);
         x.news(0, 39, 0);
         due("19 and 20 are no more for A's kin, and 20 and 1 do not cross", 0, x.two(0, 0, -1));
         live(x, "!a");
@@ -1127,6 +1189,11 @@ public final class PromisesTest {
         for (int bad : new int[] {MIN, -1, 3, MAX}) {
             due("what " + bad, WeighedWords.OUTSIDE, x.year(1, 1, bad));
         }
+        x.news(0, 50, 3);
+        x.learn(0, 0, true);
+        due("A carries the most", 50, x.year(0, 1, 1));
+        x.learn(1, 0, true);
+        due("most know a", 2, x.year(0, 1, 2));
         x.terraces(2);
         due("nobody carries", 0, x.year(9999, 99, 1));
         due("nobody knows", 0, x.year(9999, 99, 2));
@@ -1170,6 +1237,7 @@ public final class PromisesTest {
 
     private static void promise36() {
         promise = 36;
+        sightsAreBack();
         WeighedWords x = rich();
         String before = all(x);
         x.image(1);
@@ -1192,6 +1260,20 @@ public final class PromisesTest {
         due("restore(1)", 1, x.restore(1));
         due("the pad stays", 2, x.told(0));
         due("the bend is back", 12, x.bent(0));
+    }
+
+    private static void sightsAreBack() {
+        WeighedWords x = new WeighedWords();
+        x.person(0, 0, 0);
+        x.seen(1, 0);
+        x.seen(2, 0);
+        x.image(0);
+        x.forget();
+        x.seen(3, 0);
+        x.seen(3, 0);
+        due("A twice on one bridge", 0, x.fit());
+        x.restore(0);
+        due("A on two bridges", 1, x.fit());
     }
 
     private static void promise37() {
