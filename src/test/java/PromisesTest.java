@@ -661,6 +661,8 @@ public final class PromisesTest {
         due("the least that is enough", 1, trip.of(x, 0, 1, 1));
         due("to 2", 1, trip.of(x, 0, 2, 0));
         due("to 2", 4, trip.of(x, 0, 2, 1));
+        x.bridge(1, 1, 2, 11);
+        due("to 2: c is fewer than a and b", 4, trip.of(x, 0, 2, 1));
         x.bridge(1, 1, 2, 0);
         due("to 2: a, b, c", 3, trip.of(x, 0, 2, 0));
         due("to 2: a, b, c", 7, trip.of(x, 0, 2, 1));
@@ -888,6 +890,15 @@ public final class PromisesTest {
         due("D can never: none", WeighedWords.NONE, x.errands(15, 1100, 0));
         due("A is where it was", 2, x.told(1000));
         due("C knows what it knew", 0, x.told(3002));
+        x = new WeighedWords();
+        x.bridge(0, 0, 1, 30);
+        x.person(0, 0, 0);
+        x.person(1, 1, 0);
+        x.news(0, 20, 3);
+        x.news(1, 30, 3);
+        x.learn(0, 0, true);
+        x.learn(1, 1, true);
+        due("whoever comes first makes the other one too heavy", WeighedWords.NONE, x.errands(3, 10, 0));
     }
 
     private static void refusedErrands() {
